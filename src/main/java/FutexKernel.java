@@ -36,7 +36,7 @@ public final class FutexKernel {
 
     // ---- words
 
-    public int store(int thread, int address, int value) {
+    public int store(int thread, int address, int value) throws IndexOutOfBoundsException, IllegalStateException {
         Task task = taskOf(thread);
         requireAddress(address);
         requireRunning(task);
@@ -45,7 +45,8 @@ public final class FutexKernel {
         return before;
     }
 
-    public boolean compareAndSet(int thread, int address, int expected, int value) {
+    public boolean compareAndSet(int thread, int address, int expected, int value)
+            throws IndexOutOfBoundsException, IllegalStateException {
         Task task = taskOf(thread);
         requireAddress(address);
         requireRunning(task);
@@ -56,7 +57,7 @@ public final class FutexKernel {
         return true;
     }
 
-    public int fetchAdd(int thread, int address, int delta) {
+    public int fetchAdd(int thread, int address, int delta) throws IndexOutOfBoundsException, IllegalStateException {
         Task task = taskOf(thread);
         requireAddress(address);
         requireRunning(task);
@@ -65,14 +66,15 @@ public final class FutexKernel {
         return before;
     }
 
-    public int word(int address) {
+    public int word(int address) throws IndexOutOfBoundsException {
         requireAddress(address);
         return words[address];
     }
 
     // ---- waiting and waking
 
-    public boolean await(int thread, int address, int expected, int mask, int timeout) {
+    public boolean await(int thread, int address, int expected, int mask, int timeout)
+            throws IndexOutOfBoundsException, IllegalArgumentException, IllegalStateException {
         Task task = taskOf(thread);
         requireAddress(address);
         requireBetween(mask, 1, ANY);
@@ -85,7 +87,8 @@ public final class FutexKernel {
         return true;
     }
 
-    public int wake(int thread, int address, int most, int mask) {
+    public int wake(int thread, int address, int most, int mask)
+            throws IndexOutOfBoundsException, IllegalArgumentException, IllegalStateException {
         Task task = taskOf(thread);
         requireAddress(address);
         requireBetween(most, 1, THREADS);
@@ -94,7 +97,8 @@ public final class FutexKernel {
         return wakeFirst(address, most, mask);
     }
 
-    public int requeue(int thread, int from, int expected, int wakes, int to, int moves) {
+    public int requeue(int thread, int from, int expected, int wakes, int to, int moves)
+            throws IndexOutOfBoundsException, IllegalArgumentException, IllegalStateException {
         Task task = taskOf(thread);
         requireAddress(from);
         requireAddress(to);
@@ -113,7 +117,8 @@ public final class FutexKernel {
 
     // ---- locks
 
-    public int lock(int thread, int address, int timeout) {
+    public int lock(int thread, int address, int timeout)
+            throws IndexOutOfBoundsException, IllegalArgumentException, IllegalStateException {
         Task task = taskOf(thread);
         requireAddress(address);
         requireBetween(timeout, 0, LONGEST_TIMEOUT);
@@ -135,7 +140,7 @@ public final class FutexKernel {
         return MUST_WAIT;
     }
 
-    public int unlock(int thread, int address) {
+    public int unlock(int thread, int address) throws IndexOutOfBoundsException, IllegalStateException {
         Task task = taskOf(thread);
         requireAddress(address);
         requireRunning(task);
@@ -146,11 +151,11 @@ public final class FutexKernel {
         return passOn(address, false);
     }
 
-    public int locks(int thread) {
+    public int locks(int thread) throws IndexOutOfBoundsException {
         return taskOf(thread).held.size;
     }
 
-    public int lockAt(int thread, int place) {
+    public int lockAt(int thread, int place) throws IndexOutOfBoundsException {
         LockList held = taskOf(thread).held;
         if (place < 0 || place >= held.size) {
             throw new IndexOutOfBoundsException("no such place");
@@ -158,7 +163,7 @@ public final class FutexKernel {
         return held.addressAt(place);
     }
 
-    public int blockedBy(int thread) {
+    public int blockedBy(int thread) throws IndexOutOfBoundsException {
         int blockers = taskOf(thread).bit();
         // Each round goes one lock further, and no chain is longer than all threads.
         for (int round = 0; round < THREADS; round++) {
@@ -169,7 +174,7 @@ public final class FutexKernel {
 
     // ---- threads and time
 
-    public void interrupt(int thread) {
+    public void interrupt(int thread) throws IndexOutOfBoundsException, IllegalStateException {
         Task task = taskOf(thread);
         if (!task.isQueued()) {
             throw new IllegalStateException("neither WAITING nor LOCKING");
@@ -177,7 +182,7 @@ public final class FutexKernel {
         endWait(task, INTERRUPTED);
     }
 
-    public int exit(int thread) {
+    public int exit(int thread) throws IndexOutOfBoundsException, IllegalStateException {
         Task task = taskOf(thread);
         requireAlive(task);
         if (task.isQueued()) {
@@ -185,7 +190,8 @@ public final class FutexKernel {
         }
         task.state = DEAD;
         int passedOn = 0;
-        for (int place = 0; place < task.held.size; place++) {
+        int size = task.held.size;
+        for (int place = 0; place < size; place++) {
             int address = task.held.addressAt(place);
             if (ownerAt(address) == task) {
                 passOn(address, true);
@@ -196,7 +202,7 @@ public final class FutexKernel {
         return passedOn;
     }
 
-    public void start(int thread) {
+    public void start(int thread) throws IndexOutOfBoundsException, IllegalStateException {
         Task task = taskOf(thread);
         if (task.state != DEAD) {
             throw new IllegalStateException("not DEAD");
@@ -207,7 +213,8 @@ public final class FutexKernel {
         task.serial = 0;
     }
 
-    public int setPriority(int thread, int priority) {
+    public int setPriority(int thread, int priority)
+            throws IndexOutOfBoundsException, IllegalArgumentException, IllegalStateException {
         Task task = taskOf(thread);
         requireBetween(priority, 0, TOP_PRIORITY);
         requireAlive(task);
@@ -221,7 +228,7 @@ public final class FutexKernel {
         return before;
     }
 
-    public int tick(int ticks) {
+    public int tick(int ticks) throws IllegalArgumentException {
         requireBetween(ticks, 1, MOST_TICKS);
         int end = time + ticks;
         int timedOut = 0;
@@ -247,25 +254,25 @@ public final class FutexKernel {
         return task == null ? NONE : task.deadline - time;
     }
 
-    public int stateOf(int thread) {
+    public int stateOf(int thread) throws IndexOutOfBoundsException {
         return taskOf(thread).state;
     }
 
-    public int addressOf(int thread) {
+    public int addressOf(int thread) throws IndexOutOfBoundsException {
         return taskOf(thread).address;
     }
 
-    public int resultOf(int thread) {
+    public int resultOf(int thread) throws IndexOutOfBoundsException {
         return taskOf(thread).result;
     }
 
-    public int serialOf(int thread) {
+    public int serialOf(int thread) throws IndexOutOfBoundsException {
         return taskOf(thread).serial;
     }
 
     // ---- queues
 
-    public int waiters(int address) {
+    public int waiters(int address) throws IndexOutOfBoundsException {
         requireAddress(address);
         int count = 0;
         for (Task task : tasks) {
@@ -276,7 +283,7 @@ public final class FutexKernel {
         return count;
     }
 
-    public int waiterAt(int address, int place) {
+    public int waiterAt(int address, int place) throws IndexOutOfBoundsException {
         requireAddress(address);
         for (Task task : tasks) {
             if (task.address == address && countAheadAtAddress(task) == place) {
@@ -286,7 +293,7 @@ public final class FutexKernel {
         throw new IndexOutOfBoundsException("no such place");
     }
 
-    public int queueAt(int bucket, int place) {
+    public int queueAt(int bucket, int place) throws IndexOutOfBoundsException {
         if (bucket < 0 || bucket >= BUCKETS || place < 0) {
             throw new IndexOutOfBoundsException("no such bucket or place");
         }

@@ -44,7 +44,7 @@ public final class FaceTest {
             if (!Modifier.isPrivate(method.getModifiers())) {
                 String parameters = Arrays.toString(method.getParameterTypes());
                 names.add(Modifier.toString(method.getModifiers()) + " " + method.getReturnType() + " "
-                        + method.getName() + parameters);
+                        + method.getName() + parameters + " throws " + thrown(method));
             }
         }
         for (Constructor<?> constructor : FutexKernel.class.getDeclaredConstructors()) {
@@ -63,16 +63,30 @@ public final class FaceTest {
             names.add("public static final int " + constant);
         }
         names.add("public new[]");
-        String methods = "int store 3;boolean compareAndSet 4;int fetchAdd 3;int word 1;boolean await 5;int wake 4;"
-                + "int requeue 6;int lock 3;int unlock 2;int locks 1;int lockAt 2;int blockedBy 1;void interrupt 1;"
-                + "int exit 1;void start 1;int setPriority 2;int tick 1;int now 0;int nextTimeout 0;int stateOf 1;"
-                + "int addressOf 1;int resultOf 1;int serialOf 1;int waiters 1;int waiterAt 2;int queueAt 2";
+        String methods = "int store 3 PS;boolean compareAndSet 4 PS;int fetchAdd 3 PS;int word 1 P;"
+                + "boolean await 5 PAS;int wake 4 PAS;int requeue 6 PAS;int lock 3 PAS;int unlock 2 PS;"
+                + "int locks 1 P;int lockAt 2 P;int blockedBy 1 P;void interrupt 1 PS;int exit 1 PS;"
+                + "void start 1 PS;int setPriority 2 PAS;int tick 1 A;int now 0 -;int nextTimeout 0 -;"
+                + "int stateOf 1 P;int addressOf 1 P;int resultOf 1 P;int serialOf 1 P;int waiters 1 P;"
+                + "int waiterAt 2 P;int queueAt 2 P";
         for (String method : methods.split(";")) {
             String[] parts = method.split(" ");
             String[] parameters = new String[Integer.parseInt(parts[2])];
             Arrays.fill(parameters, "int");
-            names.add("public " + parts[0] + " " + parts[1] + Arrays.toString(parameters));
+            names.add("public " + parts[0] + " " + parts[1] + Arrays.toString(parameters) + " throws "
+                    + (parts[3].equals("-") ? "" : parts[3]));
         }
         return names;
+    }
+
+    /** A letter for each exception that the method declares: no such place, argument, state. */
+    private static String thrown(Method method) {
+        StringBuilder letters = new StringBuilder();
+        for (Class<?> exception : method.getExceptionTypes()) {
+            letters.append(exception == IndexOutOfBoundsException.class ? 'P'
+                    : exception == IllegalArgumentException.class ? 'A'
+                    : exception == IllegalStateException.class ? 'S' : '?');
+        }
+        return letters.toString();
     }
 }

@@ -221,8 +221,10 @@ public final class WaitingTest {
         kernel.exit(3);
         check.noPlace("8 thread -1", kernel, () -> kernel.requeue(-1, 0, 0, 1, 2, 1));
         check.noPlace("8 thread 8", kernel, () -> kernel.requeue(8, 0, 0, 1, 0, 1));
-        check.noPlace("8 from -1", kernel, () -> kernel.requeue(0, -1, 0, 1, -1, 1));
-        check.noPlace("8 from 16", kernel, () -> kernel.requeue(0, 16, 0, 1, 16, 1));
+        check.noPlace("8 from -1", kernel, () -> kernel.requeue(0, -1, 0, 1, 2, 1));
+        check.noPlace("8 from 16 alone", kernel, () -> kernel.requeue(0, 16, 0, 1, 2, 1));
+        check.noPlace("8 both -1", kernel, () -> kernel.requeue(0, -1, 0, 1, -1, 1));
+        check.noPlace("8 both 16", kernel, () -> kernel.requeue(0, 16, 0, 1, 16, 1));
         check.noPlace("8 to -1", kernel, () -> kernel.requeue(0, 0, 0, 9, -1, 1));
         check.noPlace("8 to 16", kernel, () -> kernel.requeue(0, 0, 5, 1, 16, 9));
         check.noArgument("8 the same", kernel, () -> kernel.requeue(0, 0, 0, 1, 0, 1));
