@@ -16,6 +16,7 @@ public final class LocksTest {
         promise10OfAnOverwrittenLock();
         promise10Refusals();
         promise11And12Lists();
+        promise11And12Refusals();
         promise13BlockedBy();
         promise13Cycles();
         lastLockerClearsWaiters();
@@ -29,9 +30,8 @@ public final class LocksTest {
         check.due("9 list", kernel.lockAt(7, 0), 15);
         check.due("9 RUNNING", kernel.stateOf(7), FutexKernel.RUNNING);
         check.due("9 no deadline", kernel.nextTimeout(), FutexKernel.NONE);
-        String before = Visible.of(kernel);
         check.due("9 itself", kernel.lock(7, 15, 0), FutexKernel.DEADLOCK);
-        check.due("9 nothing changes", Visible.of(kernel), before);
+        check.unchanged("9 itself", Kernels::everyState, other -> other.lock(0, Kernels.LOCKED, 0));
     }
 
     private static void promise9KeepsTheMarksOfAFreeLock() {
@@ -63,12 +63,18 @@ public final class LocksTest {
         int[] words = {9, 255, WAITERS | 9, 4, DIED | 4};
         for (int word : words) {
             kernel.store(0, 0, word);
-            String before = Visible.of(kernel);
             check.due("9 NO_OWNER " + word, kernel.lock(1, 0, 5), FutexKernel.NO_OWNER);
-            check.due("9 nothing changes", Visible.of(kernel), before);
+            check.unchanged("9 NO_OWNER " + word, () -> deadAndWord(word), other -> other.lock(1, 0, 5));
         }
         kernel.store(0, 0, 0x108);
         check.due("9 only the lowest 8 bits", kernel.lock(1, 0, 0), FutexKernel.MUST_WAIT);
+    }
+
+    private static FutexKernel deadAndWord(int word) {
+        FutexKernel kernel = new FutexKernel();
+        kernel.exit(3);
+        kernel.store(0, 0, word);
+        return kernel;
     }
 
     private static void promise9Waits() {
@@ -88,17 +94,14 @@ public final class LocksTest {
     }
 
     private static void promise9Deadlock() {
-        FutexKernel kernel = new FutexKernel();
-        for (int thread = 0; thread < 8; thread++) {
-            kernel.lock(thread, thread, 0);
-        }
+        FutexKernel kernel = Kernels.longestChain();
         for (int thread = 0; thread < 7; thread++) {
-            check.due("9 a chain", kernel.lock(thread, thread + 1, 0), FutexKernel.MUST_WAIT);
+            check.due("9 a chain", kernel.stateOf(thread), FutexKernel.LOCKING);
         }
-        String before = Visible.of(kernel);
         check.due("9 the longest circle", kernel.lock(7, 0, 0), FutexKernel.DEADLOCK);
         check.due("9 a short circle", kernel.lock(7, 6, 9), FutexKernel.DEADLOCK);
-        check.due("9 nothing changes", Visible.of(kernel), before);
+        check.unchanged("9 the longest circle", Kernels::longestChain, other -> other.lock(7, 0, 0));
+        check.unchanged("9 a short circle", Kernels::longestChain, other -> other.lock(7, 6, 9));
     }
 
     private static void promise9SearchEnds() {
@@ -125,23 +128,18 @@ public final class LocksTest {
     }
 
     private static void promise9Refusals() {
-        FutexKernel kernel = new FutexKernel();
-        kernel.await(1, 0, 0, 255, 0);
-        kernel.lock(0, 1, 0);
-        kernel.lock(2, 1, 0);
-        kernel.exit(3);
-        check.noPlace("9 thread -1", kernel, () -> kernel.lock(-1, 0, 0));
-        check.noPlace("9 thread 8", kernel, () -> kernel.lock(8, 0, -1));
-        check.noPlace("9 address -1", kernel, () -> kernel.lock(0, -1, 0));
-        check.noPlace("9 address 16", kernel, () -> kernel.lock(0, 16, 10001));
-        check.noArgument("9 timeout -1", kernel, () -> kernel.lock(0, 0, -1));
-        check.noArgument("9 timeout 10001", kernel, () -> kernel.lock(0, 0, 10001));
-        check.noArgument("9 timeout of the owner", kernel, () -> kernel.lock(0, 1, 10001));
+        check.noPlace("9 thread -1", Kernels::oneOfEach, kernel -> kernel.lock(-1, 0, 0));
+        check.noPlace("9 thread 8", Kernels::oneOfEach, kernel -> kernel.lock(8, 0, -1));
+        check.noPlace("9 address -1", Kernels::oneOfEach, kernel -> kernel.lock(0, -1, 0));
+        check.noPlace("9 address 16", Kernels::oneOfEach, kernel -> kernel.lock(0, 16, 10001));
+        check.noArgument("9 timeout -1", Kernels::oneOfEach, kernel -> kernel.lock(0, 0, -1));
+        check.noArgument("9 timeout 10001", Kernels::oneOfEach, kernel -> kernel.lock(0, 0, 10001));
+        check.noArgument("9 timeout of the owner", Kernels::oneOfEach, kernel -> kernel.lock(0, 1, 10001));
         for (int thread = 1; thread <= 3; thread++) {
             int caller = thread;
-            check.noState("9 not RUNNING " + thread, kernel, () -> kernel.lock(caller, 0, 0));
-            check.noArgument("9 argument first " + thread, kernel, () -> kernel.lock(caller, 0, -1));
-            check.noPlace("9 place first " + thread, kernel, () -> kernel.lock(caller, 16, -1));
+            check.noState("9 not RUNNING " + thread, Kernels::oneOfEach, kernel -> kernel.lock(caller, 0, 0));
+            check.noArgument("9 argument first " + thread, Kernels::oneOfEach, kernel -> kernel.lock(caller, 0, -1));
+            check.noPlace("9 place first " + thread, Kernels::oneOfEach, kernel -> kernel.lock(caller, 16, -1));
         }
     }
 
@@ -188,27 +186,30 @@ public final class LocksTest {
     }
 
     private static void promise10Refusals() {
-        FutexKernel kernel = new FutexKernel();
-        kernel.await(1, 0, 0, 255, 0);
-        kernel.lock(0, 1, 0);
-        kernel.lock(2, 1, 0);
-        kernel.exit(3);
+        check.noPlace("10 thread -1", LocksTest::owners, kernel -> kernel.unlock(-1, 0));
+        check.noPlace("10 thread 8", LocksTest::owners, kernel -> kernel.unlock(8, 0));
+        check.noPlace("10 address -1", LocksTest::owners, kernel -> kernel.unlock(0, -1));
+        check.noPlace("10 address 16", LocksTest::owners, kernel -> kernel.unlock(1, 16));
+        check.noState("10 no owner", LocksTest::owners, kernel -> kernel.unlock(0, 0));
+        check.noState("10 another owner", LocksTest::owners, kernel -> kernel.unlock(4, 1));
+        check.noState("10 WAITING", LocksTest::owners, kernel -> kernel.unlock(1, 8));
+        check.noState("10 LOCKING", LocksTest::owners, kernel -> kernel.unlock(2, 9));
+        check.noState("10 DEAD", LocksTest::owners, kernel -> kernel.unlock(3, 10));
+        check.noState("10 in the list, not in the word", LocksTest::owners, kernel -> kernel.unlock(0, 6));
+        check.noState("10 no thread in the word", LocksTest::owners, kernel -> kernel.unlock(0, 7));
+    }
+
+    /** Words that name 1, WAITING, 2, LOCKING, and 3, DEAD; two of 0's locks are overwritten. */
+    private static FutexKernel owners() {
+        FutexKernel kernel = Kernels.oneOfEach();
         kernel.store(0, 8, 2);
         kernel.store(0, 9, 3);
         kernel.store(0, 10, 4);
-        check.noPlace("10 thread -1", kernel, () -> kernel.unlock(-1, 0));
-        check.noPlace("10 thread 8", kernel, () -> kernel.unlock(8, 0));
-        check.noPlace("10 address -1", kernel, () -> kernel.unlock(0, -1));
-        check.noPlace("10 address 16", kernel, () -> kernel.unlock(1, 16));
-        check.noState("10 no owner", kernel, () -> kernel.unlock(0, 0));
-        check.noState("10 another owner", kernel, () -> kernel.unlock(4, 1));
-        check.noState("10 WAITING", kernel, () -> kernel.unlock(1, 8));
-        check.noState("10 LOCKING", kernel, () -> kernel.unlock(2, 9));
-        check.noState("10 DEAD", kernel, () -> kernel.unlock(3, 10));
-        kernel.store(0, 1, 0);
-        check.noState("10 in the list, not in the word", kernel, () -> kernel.unlock(0, 1));
-        kernel.store(0, 1, 9);
-        check.noState("10 no thread in the word", kernel, () -> kernel.unlock(0, 1));
+        kernel.lock(0, 6, 0);
+        kernel.store(0, 6, 0);
+        kernel.lock(0, 7, 0);
+        kernel.store(0, 7, 9);
+        return kernel;
     }
 
     private static void promise11And12Lists() {
@@ -221,7 +222,7 @@ public final class LocksTest {
         for (int place = 0; place < 16; place++) {
             check.due("12 lockAt", kernel.lockAt(6, place), (place * 5) % 16);
         }
-        check.noPlace("12 behind all", kernel, () -> kernel.lockAt(6, 16));
+        check.noPlace("12 behind all", Kernels::allLocked, other -> other.lockAt(0, 16));
         kernel.unlock(6, 5);
         kernel.unlock(6, 0);
         kernel.unlock(6, 11);
@@ -230,14 +231,17 @@ public final class LocksTest {
         check.due("12 last", kernel.lockAt(6, 12), 6);
         kernel.lock(6, 0, 0);
         check.due("12 at the end", kernel.lockAt(6, 13), 0);
-        check.noPlace("12 behind the last", kernel, () -> kernel.lockAt(6, 14));
-        check.noPlace("12 place -1", kernel, () -> kernel.lockAt(6, -1));
-        check.noPlace("12 least place", kernel, () -> kernel.lockAt(6, Integer.MIN_VALUE));
-        check.noPlace("12 empty list", kernel, () -> kernel.lockAt(0, 0));
-        check.noPlace("12 thread -1", kernel, () -> kernel.lockAt(-1, 0));
-        check.noPlace("12 thread 8", kernel, () -> kernel.lockAt(8, 0));
-        check.noPlace("11 thread -1", kernel, () -> kernel.locks(-1));
-        check.noPlace("11 thread 8", kernel, () -> kernel.locks(8));
+    }
+
+    private static void promise11And12Refusals() {
+        check.noPlace("12 behind the last", Kernels::everyState, kernel -> kernel.lockAt(0, 2));
+        check.noPlace("12 place -1", Kernels::everyState, kernel -> kernel.lockAt(0, -1));
+        check.noPlace("12 least place", Kernels::everyState, kernel -> kernel.lockAt(0, Integer.MIN_VALUE));
+        check.noPlace("12 empty list", Kernels::everyState, kernel -> kernel.lockAt(7, 0));
+        check.noPlace("12 thread -1", Kernels::everyState, kernel -> kernel.lockAt(-1, 0));
+        check.noPlace("12 thread 8", Kernels::everyState, kernel -> kernel.lockAt(8, 0));
+        check.noPlace("11 thread -1", Kernels::everyState, kernel -> kernel.locks(-1));
+        check.noPlace("11 thread 8", Kernels::everyState, kernel -> kernel.locks(8));
     }
 
     private static void promise13BlockedBy() {
@@ -262,8 +266,8 @@ public final class LocksTest {
         kernel.store(1, 0, 1);
         check.due("13 of one that is DEAD", kernel.blockedBy(0), 2);
         check.due("13 not the list", kernel.blockedBy(7), 0);
-        check.noPlace("13 thread -1", kernel, () -> kernel.blockedBy(-1));
-        check.noPlace("13 thread 8", kernel, () -> kernel.blockedBy(8));
+        check.noPlace("13 thread -1", Kernels::everyState, other -> other.blockedBy(-1));
+        check.noPlace("13 thread 8", Kernels::everyState, other -> other.blockedBy(8));
     }
 
     private static void promise13Cycles() {
@@ -278,13 +282,7 @@ public final class LocksTest {
         check.due("13 a circle of two", kernel.blockedBy(1), 1);
         check.due("13 the other of the two", kernel.blockedBy(2), 1);
 
-        FutexKernel chain = new FutexKernel();
-        for (int thread = 0; thread < 8; thread++) {
-            chain.lock(thread, thread, 0);
-        }
-        for (int thread = 0; thread < 7; thread++) {
-            chain.lock(thread, thread + 1, 0);
-        }
+        FutexKernel chain = Kernels.longestChain();
         for (int thread = 0; thread < 8; thread++) {
             check.due("13 the longest chain", chain.blockedBy(thread), thread);
         }

@@ -207,6 +207,88 @@ final class Model {
         return timedOut;
     }
 
+    int word(int address) {
+        places(0, address);
+        return words[address];
+    }
+
+    int locks(int thread) {
+        places(thread, 0);
+        return lists.get(thread).size();
+    }
+
+    int lockAt(int thread, int place) {
+        places(thread, 0);
+        return entry(lists.get(thread), place);
+    }
+
+    int blockedBy(int thread) {
+        places(thread, 0);
+        List<Integer> found = new ArrayList<>();
+        found.add(thread);
+        for (int place = 0; place < found.size(); place++) {
+            for (int other = 0; other < 8; other++) {
+                if (states[other] == FutexKernel.LOCKING && !found.contains(other)
+                        && (words[addresses[other]] & 255) == found.get(place) + 1) {
+                    found.add(other);
+                }
+            }
+        }
+        return found.size() - 1;
+    }
+
+    int now() {
+        return time;
+    }
+
+    int nextTimeout() {
+        int next = -1;
+        for (int thread : byBegin) {
+            if (left[thread] > 0 && (next == -1 || left[thread] < next)) {
+                next = left[thread];
+            }
+        }
+        return next;
+    }
+
+    int stateOf(int thread) {
+        places(thread, 0);
+        return states[thread];
+    }
+
+    int addressOf(int thread) {
+        places(thread, 0);
+        return addresses[thread];
+    }
+
+    int resultOf(int thread) {
+        places(thread, 0);
+        return results[thread];
+    }
+
+    int serialOf(int thread) {
+        places(thread, 0);
+        return serials[thread];
+    }
+
+    int waiters(int address) {
+        places(0, address);
+        return allAt(address).size();
+    }
+
+    int waiterAt(int address, int place) {
+        places(0, address);
+        return entry(allAt(address), place);
+    }
+
+    int queueAt(int bucket, int place) {
+        if (bucket < 0 || bucket > 3 || place < 0) {
+            throw new IndexOutOfBoundsException();
+        }
+        List<Integer> queue = queues.get(bucket);
+        return place < queue.size() ? queue.get(place) : -1;
+    }
+
     /** The same text as Visible.of answers of a kernel in the same state. */
     String visible() {
         StringBuilder text = new StringBuilder();
@@ -222,58 +304,37 @@ final class Model {
         }
         for (int address = 0; address < 16; address++) {
             text.append("; address ").append(address).append(" word ").append(words[address]).append(" waiters");
-            for (int thread : queues.get(bucket(address))) {
-                if (addresses[thread] == address) {
-                    text.append(' ').append(thread);
-                }
+            for (int thread : allAt(address)) {
+                text.append(' ').append(thread);
             }
         }
         for (int bucket = 0; bucket < 4; bucket++) {
             text.append("; bucket ").append(bucket);
             for (int place = 0; place <= 8; place++) {
-                List<Integer> queue = queues.get(bucket);
-                text.append(' ').append(place < queue.size() ? queue.get(place) : -1);
+                text.append(' ').append(queueAt(bucket, place));
             }
         }
         return text.toString();
-    }
-
-    private int nextTimeout() {
-        int next = -1;
-        for (int thread : byBegin) {
-            if (left[thread] > 0 && (next == -1 || left[thread] < next)) {
-                next = left[thread];
-            }
-        }
-        return next;
-    }
-
-    private int blockedBy(int thread) {
-        List<Integer> found = new ArrayList<>();
-        found.add(thread);
-        for (int place = 0; place < found.size(); place++) {
-            for (int other = 0; other < 8; other++) {
-                if (states[other] == FutexKernel.LOCKING && !found.contains(other)
-                        && (words[addresses[other]] & 255) == found.get(place) + 1) {
-                    found.add(other);
-                }
-            }
-        }
-        return found.size() - 1;
     }
 
     private static int bucket(int address) {
         return (address + address / 4) % 4;
     }
 
-    /** Those with the state at the address, as they stand now. */
-    private List<Integer> at(int address, int state) {
+    private List<Integer> allAt(int address) {
         List<Integer> found = new ArrayList<>();
         for (int thread : queues.get(bucket(address))) {
-            if (addresses[thread] == address && states[thread] == state) {
+            if (addresses[thread] == address) {
                 found.add(thread);
             }
         }
+        return found;
+    }
+
+    /** Those with the state at the address, as they stand now. */
+    private List<Integer> at(int address, int state) {
+        List<Integer> found = allAt(address);
+        found.removeIf(thread -> states[thread] != state);
         return found;
     }
 
@@ -340,6 +401,13 @@ final class Model {
         if (thread < 0 || thread > 7 || address < 0 || address > 15) {
             throw new IndexOutOfBoundsException();
         }
+    }
+
+    private static int entry(List<Integer> list, int place) {
+        if (place < 0 || place >= list.size()) {
+            throw new IndexOutOfBoundsException();
+        }
+        return list.get(place);
     }
 
     private static void argument(boolean fits) {

@@ -1,7 +1,13 @@
-/** Runs of calls, the same each time, on a kernel and on Model: each answer and all that is visible must agree. */
+import java.util.Arrays;
+
+/**
+ * Runs of calls, the same each time, on a kernel and on Model: each answer must agree, and at the end of the shorter
+ * runs all that is visible. A kernel gets no more than 512 calls.
+ */
 public final class ModelTest {
-    private static final int RUNS = 600;
-    private static final int CALLS = 512;
+    private static final int RUNS = 12000;
+    private static final int MOST_CALLS = 512;
+    private static final int CALLS_OF_VISIBLE = 254;
     private static final Check check = new Check();
     private static long seed = 20261119L;
 
@@ -25,15 +31,19 @@ public final class ModelTest {
     private static boolean agrees(int run) {
         FutexKernel kernel = new FutexKernel();
         Model model = new Model();
-        for (int count = 0; count < CALLS; count++) {
-            choose(kernel);
-            String what = "run " + run + ", call " + count + ": " + java.util.Arrays.toString(call);
-            String got = answer(() -> ofKernel(kernel)) + "; " + Visible.of(kernel);
-            String want = answer(() -> ofModel(model)) + "; " + model.visible();
-            check.due(what, got, want);
+        boolean whole = run % 8 == 0;
+        int calls = whole ? MOST_CALLS : 1 + next(MOST_CALLS - CALLS_OF_VISIBLE);
+        for (int count = 0; count < calls; count++) {
+            choose(model);
+            String got = answer(() -> ofKernel(kernel));
+            String want = answer(() -> ofModel(model));
+            check.due("run " + run + ", call " + count + ": " + Arrays.toString(call), got, want);
             if (!got.equals(want)) {
                 return false;
             }
+        }
+        if (!whole) {
+            check.due("run " + run + ", after " + calls + " calls", Visible.of(kernel), model.visible());
         }
         return true;
     }
@@ -65,7 +75,20 @@ public final class ModelTest {
             case 9: return kernel.exit(c[1]);
             case 10: kernel.start(c[1]); return 0;
             case 11: return kernel.setPriority(c[1], c[2]);
-            default: return kernel.tick(c[1]);
+            case 12: return kernel.tick(c[1]);
+            case 13: return kernel.word(c[2]);
+            case 14: return kernel.locks(c[1]);
+            case 15: return kernel.lockAt(c[1], c[3]);
+            case 16: return kernel.blockedBy(c[1]);
+            case 17: return kernel.now();
+            case 18: return kernel.nextTimeout();
+            case 19: return kernel.stateOf(c[1]);
+            case 20: return kernel.addressOf(c[1]);
+            case 21: return kernel.resultOf(c[1]);
+            case 22: return kernel.serialOf(c[1]);
+            case 23: return kernel.waiters(c[2]);
+            case 24: return kernel.waiterAt(c[2], c[3]);
+            default: return kernel.queueAt(c[3], c[4]);
         }
     }
 
@@ -84,16 +107,31 @@ public final class ModelTest {
             case 9: return model.exit(c[1]);
             case 10: model.start(c[1]); return 0;
             case 11: return model.setPriority(c[1], c[2]);
-            default: return model.tick(c[1]);
+            case 12: return model.tick(c[1]);
+            case 13: return model.word(c[2]);
+            case 14: return model.locks(c[1]);
+            case 15: return model.lockAt(c[1], c[3]);
+            case 16: return model.blockedBy(c[1]);
+            case 17: return model.now();
+            case 18: return model.nextTimeout();
+            case 19: return model.stateOf(c[1]);
+            case 20: return model.addressOf(c[1]);
+            case 21: return model.resultOf(c[1]);
+            case 22: return model.serialOf(c[1]);
+            case 23: return model.waiters(c[2]);
+            case 24: return model.waiterAt(c[2], c[3]);
+            default: return model.queueAt(c[3], c[4]);
         }
     }
 
-    /** Which call comes, and how often of a hundred. */
+    /** Which call comes, and how often of two hundred. */
     private static final int[][] SHARES = {
-        {0, 5}, {1, 2}, {2, 2}, {3, 20}, {4, 6}, {5, 8}, {6, 26}, {7, 10}, {8, 3}, {9, 3}, {10, 4}, {11, 5}, {12, 6}};
+        {0, 8}, {1, 4}, {2, 4}, {3, 28}, {4, 8}, {5, 12}, {6, 38}, {7, 15}, {8, 4}, {9, 4}, {10, 6}, {11, 8}, {12, 9},
+        {13, 4}, {14, 2}, {15, 4}, {16, 5}, {17, 1}, {18, 4}, {19, 3}, {20, 3}, {21, 5}, {22, 5}, {23, 3}, {24, 6},
+        {25, 7}};
 
-    private static void choose(FutexKernel kernel) {
-        int share = next(100);
+    private static void choose(Model model) {
+        int share = next(200);
         int row = 0;
         while (share >= SHARES[row][1]) {
             share -= SHARES[row][1];
@@ -102,7 +140,7 @@ public final class ModelTest {
         call[0] = SHARES[row][0];
         call[1] = thread();
         call[2] = address();
-        int word = call[2] >= 0 && call[2] < 16 ? kernel.word(call[2]) : 0;
+        int word = call[2] >= 0 && call[2] < 16 ? model.word(call[2]) : 0;
         switch (call[0]) {
             case 0: arguments(value(), 0, 0, 0); break;
             case 1: arguments(next(2) == 0 ? word : value(), value(), 0, 0); break;
@@ -114,6 +152,9 @@ public final class ModelTest {
             case 7: chooseOwner(word); break;
             case 11: call[2] = from(0, 1 + next(9)); break;
             case 12: call[1] = next(3) == 0 ? from(1, 1000) : from(1, 5); break;
+            case 15: call[3] = from(0, next(4)); break;
+            case 24: call[3] = from(0, next(4)); break;
+            case 25: arguments(from(0, 3), from(0, next(8)), 0, 0); break;
             default: break;
         }
     }

@@ -22,20 +22,19 @@ public final class QueuesTest {
         }
         check.due("26 first of the other", kernel.waiterAt(7, 0), 4);
         check.due("26 second of the other", kernel.waiterAt(7, 1), 2);
-        check.noPlace("25 address -1", kernel, () -> kernel.waiters(-1));
-        check.noPlace("25 address 16", kernel, () -> kernel.waiters(16));
+        check.noPlace("25 address -1", QueuesTest::mixed, other -> other.waiters(-1));
+        check.noPlace("25 address 16", QueuesTest::mixed, other -> other.waiters(16));
     }
 
     private static void promise26Refusals() {
-        FutexKernel kernel = mixed();
-        check.noPlace("26 behind the last", kernel, () -> kernel.waiterAt(0, 4));
-        check.noPlace("26 behind the last of the other", kernel, () -> kernel.waiterAt(7, 2));
-        check.noPlace("26 nobody", kernel, () -> kernel.waiterAt(10, 0));
-        check.noPlace("26 place -1", kernel, () -> kernel.waiterAt(0, -1));
-        check.noPlace("26 greatest place", kernel, () -> kernel.waiterAt(0, Integer.MAX_VALUE));
-        check.noPlace("26 least place", kernel, () -> kernel.waiterAt(0, Integer.MIN_VALUE));
-        check.noPlace("26 address -1", kernel, () -> kernel.waiterAt(-1, 0));
-        check.noPlace("26 address 16", kernel, () -> kernel.waiterAt(16, 0));
+        check.noPlace("26 behind the last", QueuesTest::mixed, kernel -> kernel.waiterAt(0, 4));
+        check.noPlace("26 behind the last of the other", QueuesTest::mixed, kernel -> kernel.waiterAt(7, 2));
+        check.noPlace("26 nobody", QueuesTest::mixed, kernel -> kernel.waiterAt(10, 0));
+        check.noPlace("26 place -1", QueuesTest::mixed, kernel -> kernel.waiterAt(0, -1));
+        check.noPlace("26 greatest place", QueuesTest::mixed, kernel -> kernel.waiterAt(0, Integer.MAX_VALUE));
+        check.noPlace("26 least place", QueuesTest::mixed, kernel -> kernel.waiterAt(0, Integer.MIN_VALUE));
+        check.noPlace("26 address -1", QueuesTest::mixed, kernel -> kernel.waiterAt(-1, 0));
+        check.noPlace("26 address 16", QueuesTest::mixed, kernel -> kernel.waiterAt(16, 0));
     }
 
     private static void promise27BucketsOfAddresses() {
@@ -61,11 +60,10 @@ public final class QueuesTest {
     }
 
     private static void promise27Refusals() {
-        FutexKernel kernel = mixed();
-        check.noPlace("27 bucket -1", kernel, () -> kernel.queueAt(-1, 0));
-        check.noPlace("27 bucket 4", kernel, () -> kernel.queueAt(4, 0));
-        check.noPlace("27 place -1", kernel, () -> kernel.queueAt(0, -1));
-        check.noPlace("27 least place", kernel, () -> kernel.queueAt(3, Integer.MIN_VALUE));
+        check.noPlace("27 bucket -1", QueuesTest::mixed, kernel -> kernel.queueAt(-1, 0));
+        check.noPlace("27 bucket 4", QueuesTest::mixed, kernel -> kernel.queueAt(4, 0));
+        check.noPlace("27 place -1", QueuesTest::mixed, kernel -> kernel.queueAt(0, -1));
+        check.noPlace("27 least place", QueuesTest::mixed, kernel -> kernel.queueAt(3, Integer.MIN_VALUE));
     }
 
     /** Puts 5, 4, 1, 2, 3, 6 into the queue of bucket 0: 4 and 2 at the address 7, 1 LOCKING. */

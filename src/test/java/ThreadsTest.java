@@ -36,11 +36,10 @@ public final class ThreadsTest {
         check.due("14 next serial", kernel.serialOf(1), 2);
         check.due("14 no deadline", kernel.nextTimeout(), FutexKernel.NONE);
         check.due("14 no queue", kernel.queueAt(0, 0), FutexKernel.NONE);
-        kernel.exit(3);
-        check.noState("14 RUNNING", kernel, () -> kernel.interrupt(1));
-        check.noState("14 DEAD", kernel, () -> kernel.interrupt(3));
-        check.noPlace("14 thread -1", kernel, () -> kernel.interrupt(-1));
-        check.noPlace("14 thread 8", kernel, () -> kernel.interrupt(8));
+        check.noState("14 RUNNING", Kernels::oneOfEach, other -> other.interrupt(0));
+        check.noState("14 DEAD", Kernels::oneOfEach, other -> other.interrupt(3));
+        check.noPlace("14 thread -1", Kernels::oneOfEach, other -> other.interrupt(-1));
+        check.noPlace("14 thread 8", Kernels::oneOfEach, other -> other.interrupt(8));
     }
 
     private static void promise15ExitPassesLocksOn() {
@@ -69,9 +68,9 @@ public final class ThreadsTest {
         check.due("15 to the next", kernel.word(2), DIED | 3);
         check.due("15 HANDED has no DIED", kernel.unlock(2, 2), FutexKernel.NONE);
         check.due("15 no DIED then", kernel.word(2), 0);
-        check.noState("15 DEAD", kernel, () -> kernel.exit(0));
-        check.noPlace("15 thread -1", kernel, () -> kernel.exit(-1));
-        check.noPlace("15 thread 8", kernel, () -> kernel.exit(8));
+        check.noState("15 DEAD", Kernels::oneOfEach, other -> other.exit(3));
+        check.noPlace("15 thread -1", Kernels::oneOfEach, other -> other.exit(-1));
+        check.noPlace("15 thread 8", Kernels::oneOfEach, other -> other.exit(8));
     }
 
     private static void promise15ExitOfOneThatWaits() {
@@ -144,14 +143,11 @@ public final class ThreadsTest {
         check.due("16 it waits anew", kernel.await(0, 1, 0, 1, 0), true);
         kernel.interrupt(0);
         check.due("16 the serials go on", kernel.serialOf(0), 2);
-        kernel.await(1, 0, 0, 1, 0);
-        kernel.lock(2, 2, 0);
-        kernel.lock(3, 2, 0);
-        check.noState("16 RUNNING", kernel, () -> kernel.start(0));
-        check.noState("16 WAITING", kernel, () -> kernel.start(1));
-        check.noState("16 LOCKING", kernel, () -> kernel.start(3));
-        check.noPlace("16 thread -1", kernel, () -> kernel.start(-1));
-        check.noPlace("16 thread 8", kernel, () -> kernel.start(8));
+        check.noState("16 RUNNING", Kernels::oneOfEach, other -> other.start(0));
+        check.noState("16 WAITING", Kernels::oneOfEach, other -> other.start(1));
+        check.noState("16 LOCKING", Kernels::oneOfEach, other -> other.start(2));
+        check.noPlace("16 thread -1", Kernels::oneOfEach, other -> other.start(-1));
+        check.noPlace("16 thread 8", Kernels::oneOfEach, other -> other.start(8));
     }
 
     private static void promise17SetPriority() {
@@ -185,17 +181,13 @@ public final class ThreadsTest {
     }
 
     private static void promise17Refusals() {
-        FutexKernel kernel = new FutexKernel();
-        kernel.setPriority(3, 2);
-        kernel.exit(3);
-        check.noPlace("17 thread -1", kernel, () -> kernel.setPriority(-1, 10));
-        check.noPlace("17 thread 8", kernel, () -> kernel.setPriority(8, 0));
-        check.noArgument("17 priority -1", kernel, () -> kernel.setPriority(0, -1));
-        check.noArgument("17 priority 10", kernel, () -> kernel.setPriority(0, 10));
-        check.noArgument("17 argument first", kernel, () -> kernel.setPriority(3, 10));
-        check.noState("17 DEAD", kernel, () -> kernel.setPriority(3, 1));
-        check.noState("17 DEAD, the same", kernel, () -> kernel.setPriority(3, 2));
-        check.due("17 nothing changed", kernel.setPriority(0, 9), 0);
+        check.noPlace("17 thread -1", Kernels::everyState, kernel -> kernel.setPriority(-1, 10));
+        check.noPlace("17 thread 8", Kernels::everyState, kernel -> kernel.setPriority(8, 0));
+        check.noArgument("17 priority -1", Kernels::everyState, kernel -> kernel.setPriority(0, -1));
+        check.noArgument("17 priority 10", Kernels::everyState, kernel -> kernel.setPriority(0, 10));
+        check.noArgument("17 argument first", Kernels::everyState, kernel -> kernel.setPriority(3, 10));
+        check.noState("17 DEAD", Kernels::everyState, kernel -> kernel.setPriority(3, 1));
+        check.noState("17 DEAD, the same", Kernels::everyState, kernel -> kernel.setPriority(3, 2));
     }
 
     private static void promise18Tick() {
@@ -251,13 +243,11 @@ public final class ThreadsTest {
     }
 
     private static void promise18Refusals() {
-        FutexKernel kernel = new FutexKernel();
-        kernel.await(0, 0, 0, 1, 1);
-        check.noArgument("18 ticks 0", kernel, () -> kernel.tick(0));
-        check.noArgument("18 ticks -1", kernel, () -> kernel.tick(-1));
-        check.noArgument("18 ticks 1001", kernel, () -> kernel.tick(1001));
-        check.noArgument("18 least ticks", kernel, () -> kernel.tick(Integer.MIN_VALUE));
-        check.noArgument("18 greatest ticks", kernel, () -> kernel.tick(Integer.MAX_VALUE));
+        check.noArgument("18 ticks 0", Kernels::everyState, kernel -> kernel.tick(0));
+        check.noArgument("18 ticks -1", Kernels::everyState, kernel -> kernel.tick(-1));
+        check.noArgument("18 ticks 1001", Kernels::everyState, kernel -> kernel.tick(1001));
+        check.noArgument("18 least ticks", Kernels::everyState, kernel -> kernel.tick(Integer.MIN_VALUE));
+        check.noArgument("18 greatest ticks", Kernels::everyState, kernel -> kernel.tick(Integer.MAX_VALUE));
     }
 
     private static void promise19Now() {
@@ -316,10 +306,10 @@ public final class ThreadsTest {
         check.due("24 none", kernel.serialOf(0), 0);
         int[] wrong = {-1, 8, Integer.MIN_VALUE, Integer.MAX_VALUE};
         for (int thread : wrong) {
-            check.noPlace("21 thread " + thread, kernel, () -> kernel.stateOf(thread));
-            check.noPlace("22 thread " + thread, kernel, () -> kernel.addressOf(thread));
-            check.noPlace("23 thread " + thread, kernel, () -> kernel.resultOf(thread));
-            check.noPlace("24 thread " + thread, kernel, () -> kernel.serialOf(thread));
+            check.noPlace("21 thread " + thread, Kernels::everyState, other -> other.stateOf(thread));
+            check.noPlace("22 thread " + thread, Kernels::everyState, other -> other.addressOf(thread));
+            check.noPlace("23 thread " + thread, Kernels::everyState, other -> other.resultOf(thread));
+            check.noPlace("24 thread " + thread, Kernels::everyState, other -> other.serialOf(thread));
         }
     }
 }

@@ -20,9 +20,8 @@ public final class WaitingTest {
     private static void promise6Await() {
         FutexKernel kernel = new FutexKernel();
         kernel.store(0, 7, 3);
-        String before = Visible.of(kernel);
         check.due("6 not expected", kernel.await(1, 7, 4, 1, 1), false);
-        check.due("6 nothing changes", Visible.of(kernel), before);
+        check.unchanged("6 not expected", Kernels::oneOfEach, other -> other.await(5, 7, 4, 1, 1));
         check.due("6 expected", kernel.await(1, 7, 3, 255, 10000), true);
         check.due("6 stateOf", kernel.stateOf(1), FutexKernel.WAITING);
         check.due("6 addressOf", kernel.addressOf(1), 7);
@@ -43,27 +42,24 @@ public final class WaitingTest {
     }
 
     private static void promise6Refusals() {
-        FutexKernel kernel = new FutexKernel();
-        check.noPlace("6 thread -1", kernel, () -> kernel.await(-1, 0, 0, 0, 0));
-        check.noPlace("6 thread 8", kernel, () -> kernel.await(8, 0, 0, 1, 0));
-        check.noPlace("6 address -1", kernel, () -> kernel.await(0, -1, 0, 1, -1));
-        check.noPlace("6 address 16", kernel, () -> kernel.await(0, 16, 0, 1, 0));
-        check.noArgument("6 mask 0", kernel, () -> kernel.await(0, 0, 0, 0, 0));
-        check.noArgument("6 mask -1", kernel, () -> kernel.await(0, 0, 0, -1, 0));
-        check.noArgument("6 mask 256", kernel, () -> kernel.await(0, 0, 0, 256, 0));
-        check.noArgument("6 timeout -1", kernel, () -> kernel.await(0, 0, 0, 1, -1));
-        check.noArgument("6 timeout 10001", kernel, () -> kernel.await(0, 0, 0, 1, 10001));
-        check.noArgument("6 mask, and not expected", kernel, () -> kernel.await(0, 0, 1, 0, 0));
-        kernel.await(1, 0, 0, 1, 0);
-        kernel.lock(0, 1, 0);
-        kernel.lock(2, 1, 0);
-        kernel.exit(3);
+        check.noPlace("6 thread -1", Kernels::oneOfEach, kernel -> kernel.await(-1, 0, 0, 0, 0));
+        check.noPlace("6 thread 8", Kernels::oneOfEach, kernel -> kernel.await(8, 0, 0, 1, 0));
+        check.noPlace("6 address -1", Kernels::oneOfEach, kernel -> kernel.await(0, -1, 0, 1, -1));
+        check.noPlace("6 address 16", Kernels::oneOfEach, kernel -> kernel.await(0, 16, 0, 1, 0));
+        check.noArgument("6 mask 0", Kernels::oneOfEach, kernel -> kernel.await(0, 0, 0, 0, 0));
+        check.noArgument("6 mask -1", Kernels::oneOfEach, kernel -> kernel.await(0, 0, 0, -1, 0));
+        check.noArgument("6 mask 256", Kernels::oneOfEach, kernel -> kernel.await(0, 0, 0, 256, 0));
+        check.noArgument("6 timeout -1", Kernels::oneOfEach, kernel -> kernel.await(0, 0, 0, 1, -1));
+        check.noArgument("6 timeout 10001", Kernels::oneOfEach, kernel -> kernel.await(0, 0, 0, 1, 10001));
+        check.noArgument("6 mask, and not expected", Kernels::oneOfEach, kernel -> kernel.await(0, 0, 1, 0, 0));
         for (int thread = 1; thread <= 3; thread++) {
             int caller = thread;
-            check.noState("6 not RUNNING " + thread, kernel, () -> kernel.await(caller, 0, 0, 1, 0));
-            check.noState("6 not RUNNING, not expected " + thread, kernel, () -> kernel.await(caller, 0, 5, 1, 0));
-            check.noArgument("6 argument first " + thread, kernel, () -> kernel.await(caller, 0, 0, 256, 0));
-            check.noPlace("6 place first " + thread, kernel, () -> kernel.await(caller, 16, 0, 256, 0));
+            check.noState("6 not RUNNING " + thread, Kernels::oneOfEach, kernel -> kernel.await(caller, 0, 0, 1, 0));
+            check.noState("6 not RUNNING, not expected " + thread, Kernels::oneOfEach,
+                    kernel -> kernel.await(caller, 0, 5, 1, 0));
+            check.noArgument("6 argument first " + thread, Kernels::oneOfEach,
+                    kernel -> kernel.await(caller, 0, 0, 256, 0));
+            check.noPlace("6 place first " + thread, Kernels::oneOfEach, kernel -> kernel.await(caller, 16, 0, 256, 0));
         }
     }
 
@@ -103,40 +99,30 @@ public final class WaitingTest {
     }
 
     private static void promise7Refusals() {
-        FutexKernel kernel = new FutexKernel();
-        kernel.await(1, 0, 0, 255, 0);
-        kernel.lock(0, 1, 0);
-        kernel.lock(2, 1, 0);
-        kernel.exit(3);
-        check.noPlace("7 thread -1", kernel, () -> kernel.wake(-1, 0, 1, 1));
-        check.noPlace("7 thread 8", kernel, () -> kernel.wake(8, 0, 0, 0));
-        check.noPlace("7 address -1", kernel, () -> kernel.wake(0, -1, 1, 1));
-        check.noPlace("7 address 16", kernel, () -> kernel.wake(0, 16, 0, 1));
-        check.noArgument("7 most 0", kernel, () -> kernel.wake(0, 0, 0, 1));
-        check.noArgument("7 most 9", kernel, () -> kernel.wake(0, 0, 9, 1));
-        check.noArgument("7 most -1", kernel, () -> kernel.wake(0, 0, -1, 1));
-        check.noArgument("7 mask 0", kernel, () -> kernel.wake(0, 0, 1, 0));
-        check.noArgument("7 mask 256", kernel, () -> kernel.wake(0, 0, 1, 256));
-        check.noArgument("7 mask -1", kernel, () -> kernel.wake(0, 0, 1, -1));
+        check.noPlace("7 thread -1", Kernels::oneOfEach, kernel -> kernel.wake(-1, 0, 1, 1));
+        check.noPlace("7 thread 8", Kernels::oneOfEach, kernel -> kernel.wake(8, 0, 0, 0));
+        check.noPlace("7 address -1", Kernels::oneOfEach, kernel -> kernel.wake(0, -1, 1, 1));
+        check.noPlace("7 address 16", Kernels::oneOfEach, kernel -> kernel.wake(0, 16, 0, 1));
+        check.noArgument("7 most 0", Kernels::oneOfEach, kernel -> kernel.wake(0, 0, 0, 1));
+        check.noArgument("7 most 9", Kernels::oneOfEach, kernel -> kernel.wake(0, 0, 9, 1));
+        check.noArgument("7 most -1", Kernels::oneOfEach, kernel -> kernel.wake(0, 0, -1, 1));
+        check.noArgument("7 mask 0", Kernels::oneOfEach, kernel -> kernel.wake(0, 0, 1, 0));
+        check.noArgument("7 mask 256", Kernels::oneOfEach, kernel -> kernel.wake(0, 0, 1, 256));
+        check.noArgument("7 mask -1", Kernels::oneOfEach, kernel -> kernel.wake(0, 0, 1, -1));
         for (int thread = 1; thread <= 3; thread++) {
             int caller = thread;
-            check.noState("7 not RUNNING " + thread, kernel, () -> kernel.wake(caller, 0, 1, 1));
-            check.noArgument("7 argument first " + thread, kernel, () -> kernel.wake(caller, 0, 9, 1));
-            check.noPlace("7 place first " + thread, kernel, () -> kernel.wake(caller, 16, 9, 1));
+            check.noState("7 not RUNNING " + thread, Kernels::oneOfEach, kernel -> kernel.wake(caller, 0, 1, 1));
+            check.noArgument("7 argument first " + thread, Kernels::oneOfEach, kernel -> kernel.wake(caller, 0, 9, 1));
+            check.noPlace("7 place first " + thread, Kernels::oneOfEach, kernel -> kernel.wake(caller, 16, 9, 1));
         }
     }
 
     private static void promise8WakesAndMoves() {
-        FutexKernel kernel = new FutexKernel();
-        kernel.store(0, 0, 42);
-        for (int thread = 1; thread <= 5; thread++) {
-            kernel.await(thread, 0, 42, 1 << thread, 0);
-        }
-        String before = Visible.of(kernel);
+        FutexKernel kernel = fiveAtZero();
         check.due("8 not expected", kernel.requeue(0, 0, 0, 8, 1, 8), FutexKernel.NONE);
-        check.due("8 nothing changes", Visible.of(kernel), before);
+        check.unchanged("8 not expected", WaitingTest::fiveAtZero, other -> other.requeue(0, 0, 0, 8, 1, 8));
         check.due("8 nobody", kernel.requeue(0, 0, 42, 0, 1, 0), 0);
-        check.due("8 nothing changes then either", Visible.of(kernel), before);
+        check.unchanged("8 nobody", WaitingTest::fiveAtZero, other -> other.requeue(0, 0, 42, 0, 1, 0));
         check.due("8 one woken and two moved", kernel.requeue(0, 0, 42, 1, 1, 2), 3);
         check.due("8 woken, whatever its mask", kernel.resultOf(1), FutexKernel.WOKEN);
         check.due("8 serial number", kernel.serialOf(1), 1);
@@ -154,6 +140,15 @@ public final class WaitingTest {
         check.due("8 the word of the first one", kernel.requeue(0, 1, 42, 8, 0, 8), FutexKernel.NONE);
         check.due("8 only moves", kernel.requeue(0, 1, 0, 0, 15, 8), 2);
         check.due("8 moved on", kernel.waiterAt(15, 1), 3);
+    }
+
+    private static FutexKernel fiveAtZero() {
+        FutexKernel kernel = new FutexKernel();
+        kernel.store(0, 0, 42);
+        for (int thread = 1; thread <= 5; thread++) {
+            kernel.await(thread, 0, 42, 1 << thread, 0);
+        }
+        return kernel;
     }
 
     private static void promise8JoinsTheOtherQueue() {
@@ -214,31 +209,30 @@ public final class WaitingTest {
     }
 
     private static void promise8Refusals() {
-        FutexKernel kernel = new FutexKernel();
-        kernel.await(1, 0, 0, 255, 0);
-        kernel.lock(0, 1, 0);
-        kernel.lock(2, 1, 0);
-        kernel.exit(3);
-        check.noPlace("8 thread -1", kernel, () -> kernel.requeue(-1, 0, 0, 1, 2, 1));
-        check.noPlace("8 thread 8", kernel, () -> kernel.requeue(8, 0, 0, 1, 0, 1));
-        check.noPlace("8 from -1", kernel, () -> kernel.requeue(0, -1, 0, 1, 2, 1));
-        check.noPlace("8 from 16 alone", kernel, () -> kernel.requeue(0, 16, 0, 1, 2, 1));
-        check.noPlace("8 both -1", kernel, () -> kernel.requeue(0, -1, 0, 1, -1, 1));
-        check.noPlace("8 both 16", kernel, () -> kernel.requeue(0, 16, 0, 1, 16, 1));
-        check.noPlace("8 to -1", kernel, () -> kernel.requeue(0, 0, 0, 9, -1, 1));
-        check.noPlace("8 to 16", kernel, () -> kernel.requeue(0, 0, 5, 1, 16, 9));
-        check.noArgument("8 the same", kernel, () -> kernel.requeue(0, 0, 0, 1, 0, 1));
-        check.noArgument("8 wakes -1", kernel, () -> kernel.requeue(0, 0, 0, -1, 2, 1));
-        check.noArgument("8 wakes 9", kernel, () -> kernel.requeue(0, 0, 0, 9, 2, 1));
-        check.noArgument("8 moves -1", kernel, () -> kernel.requeue(0, 0, 0, 1, 2, -1));
-        check.noArgument("8 moves 9", kernel, () -> kernel.requeue(0, 0, 0, 1, 2, 9));
-        check.noArgument("8 moves 9, not expected", kernel, () -> kernel.requeue(0, 0, 5, 1, 2, 9));
+        check.noPlace("8 thread -1", Kernels::oneOfEach, kernel -> kernel.requeue(-1, 0, 0, 1, 2, 1));
+        check.noPlace("8 thread 8", Kernels::oneOfEach, kernel -> kernel.requeue(8, 0, 0, 1, 0, 1));
+        check.noPlace("8 from -1", Kernels::oneOfEach, kernel -> kernel.requeue(0, -1, 0, 1, 2, 1));
+        check.noPlace("8 from 16 alone", Kernels::oneOfEach, kernel -> kernel.requeue(0, 16, 0, 1, 2, 1));
+        check.noPlace("8 both -1", Kernels::oneOfEach, kernel -> kernel.requeue(0, -1, 0, 1, -1, 1));
+        check.noPlace("8 both 16", Kernels::oneOfEach, kernel -> kernel.requeue(0, 16, 0, 1, 16, 1));
+        check.noPlace("8 to -1", Kernels::oneOfEach, kernel -> kernel.requeue(0, 0, 0, 9, -1, 1));
+        check.noPlace("8 to 16", Kernels::oneOfEach, kernel -> kernel.requeue(0, 0, 5, 1, 16, 9));
+        check.noArgument("8 the same", Kernels::oneOfEach, kernel -> kernel.requeue(0, 0, 0, 1, 0, 1));
+        check.noArgument("8 wakes -1", Kernels::oneOfEach, kernel -> kernel.requeue(0, 0, 0, -1, 2, 1));
+        check.noArgument("8 wakes 9", Kernels::oneOfEach, kernel -> kernel.requeue(0, 0, 0, 9, 2, 1));
+        check.noArgument("8 moves -1", Kernels::oneOfEach, kernel -> kernel.requeue(0, 0, 0, 1, 2, -1));
+        check.noArgument("8 moves 9", Kernels::oneOfEach, kernel -> kernel.requeue(0, 0, 0, 1, 2, 9));
+        check.noArgument("8 moves 9, not expected", Kernels::oneOfEach, kernel -> kernel.requeue(0, 0, 5, 1, 2, 9));
         for (int thread = 1; thread <= 3; thread++) {
             int caller = thread;
-            check.noState("8 not RUNNING " + thread, kernel, () -> kernel.requeue(caller, 0, 0, 1, 2, 1));
-            check.noState("8 not expected " + thread, kernel, () -> kernel.requeue(caller, 0, 5, 1, 2, 1));
-            check.noArgument("8 argument first " + thread, kernel, () -> kernel.requeue(caller, 0, 0, 1, 0, 1));
-            check.noPlace("8 place first " + thread, kernel, () -> kernel.requeue(caller, 0, 0, 9, 16, 1));
+            check.noState("8 not RUNNING " + thread, Kernels::oneOfEach,
+                    kernel -> kernel.requeue(caller, 0, 0, 1, 2, 1));
+            check.noState("8 not expected " + thread, Kernels::oneOfEach,
+                    kernel -> kernel.requeue(caller, 0, 5, 1, 2, 1));
+            check.noArgument("8 argument first " + thread, Kernels::oneOfEach,
+                    kernel -> kernel.requeue(caller, 0, 0, 1, 0, 1));
+            check.noPlace("8 place first " + thread, Kernels::oneOfEach,
+                    kernel -> kernel.requeue(caller, 0, 0, 9, 16, 1));
         }
     }
 }

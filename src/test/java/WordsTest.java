@@ -5,10 +5,14 @@ public final class WordsTest {
     public static void main(String[] args) {
         promise1NewObject();
         promise2Store();
+        promise2Refusals();
         promise3CompareAndSet();
+        promise3Refusals();
         promise4FetchAdd();
+        promise4Refusals();
         promise5Word();
         wordsAreFreeUnderLocks();
+        oneOfEachState();
         check.end("WordsTest");
     }
 
@@ -46,16 +50,18 @@ public final class WordsTest {
         check.due("2 word", kernel.word(0), Integer.MIN_VALUE);
         check.due("2 last word", kernel.word(15), -1);
         check.due("2 other word", kernel.word(1), 0);
-        check.noPlace("2 thread -1", kernel, () -> kernel.store(-1, 0, 1));
-        check.noPlace("2 thread 8", kernel, () -> kernel.store(8, 0, 1));
-        check.noPlace("2 address -1", kernel, () -> kernel.store(0, -1, 1));
-        check.noPlace("2 address 16", kernel, () -> kernel.store(0, 16, 1));
-        check.noPlace("2 far", kernel, () -> kernel.store(Integer.MAX_VALUE, Integer.MIN_VALUE, 1));
-        notRunning(kernel);
+    }
+
+    private static void promise2Refusals() {
+        check.noPlace("2 thread -1", Kernels::oneOfEach, kernel -> kernel.store(-1, 0, 1));
+        check.noPlace("2 thread 8", Kernels::oneOfEach, kernel -> kernel.store(8, 0, 1));
+        check.noPlace("2 address -1", Kernels::oneOfEach, kernel -> kernel.store(0, -1, 1));
+        check.noPlace("2 address 16", Kernels::oneOfEach, kernel -> kernel.store(0, 16, 1));
+        check.noPlace("2 far", Kernels::oneOfEach, kernel -> kernel.store(Integer.MAX_VALUE, Integer.MIN_VALUE, 1));
         for (int thread = 1; thread <= 3; thread++) {
             int caller = thread;
-            check.noState("2 not RUNNING " + thread, kernel, () -> kernel.store(caller, 2, 1));
-            check.noPlace("2 place before state " + thread, kernel, () -> kernel.store(caller, 16, 1));
+            check.noState("2 not RUNNING " + thread, Kernels::oneOfEach, kernel -> kernel.store(caller, 2, 1));
+            check.noPlace("2 place before state " + thread, Kernels::oneOfEach, kernel -> kernel.store(caller, 16, 1));
         }
     }
 
@@ -67,17 +73,21 @@ public final class WordsTest {
         check.due("3 word", kernel.word(3), 7);
         check.due("3 all bits count", kernel.compareAndSet(0, 3, 7 | Integer.MIN_VALUE, 8), false);
         check.due("3 to the same", kernel.compareAndSet(0, 3, 7, 7), true);
-        check.noPlace("3 thread -1", kernel, () -> kernel.compareAndSet(-1, 0, 0, 1));
-        check.noPlace("3 thread 8", kernel, () -> kernel.compareAndSet(8, 0, 0, 1));
-        check.noPlace("3 address -1", kernel, () -> kernel.compareAndSet(0, -1, 0, 1));
-        check.noPlace("3 address 16", kernel, () -> kernel.compareAndSet(0, 16, 0, 1));
-        notRunning(kernel);
+    }
+
+    private static void promise3Refusals() {
+        check.noPlace("3 thread -1", Kernels::oneOfEach, kernel -> kernel.compareAndSet(-1, 0, 0, 1));
+        check.noPlace("3 thread 8", Kernels::oneOfEach, kernel -> kernel.compareAndSet(8, 0, 0, 1));
+        check.noPlace("3 address -1", Kernels::oneOfEach, kernel -> kernel.compareAndSet(0, -1, 0, 1));
+        check.noPlace("3 address 16", Kernels::oneOfEach, kernel -> kernel.compareAndSet(0, 16, 0, 1));
         for (int thread = 1; thread <= 3; thread++) {
             int caller = thread;
-            check.noState("3 not RUNNING " + thread, kernel, () -> kernel.compareAndSet(caller, 2, 0, 1));
-            check.noState("3 not RUNNING nor expected " + thread, kernel,
-                    () -> kernel.compareAndSet(caller, 2, 9, 1));
-            check.noPlace("3 place before state " + thread, kernel, () -> kernel.compareAndSet(caller, 16, 0, 1));
+            check.noState("3 not RUNNING " + thread, Kernels::oneOfEach,
+                    kernel -> kernel.compareAndSet(caller, 2, 0, 1));
+            check.noState("3 not RUNNING nor expected " + thread, Kernels::oneOfEach,
+                    kernel -> kernel.compareAndSet(caller, 2, 9, 1));
+            check.noPlace("3 place before state " + thread, Kernels::oneOfEach,
+                    kernel -> kernel.compareAndSet(caller, 16, 0, 1));
         }
     }
 
@@ -91,15 +101,18 @@ public final class WordsTest {
         check.due("4 with 32 bits", kernel.word(4), Integer.MIN_VALUE);
         kernel.fetchAdd(1, 4, Integer.MIN_VALUE);
         check.due("4 twice the least", kernel.word(4), 0);
-        check.noPlace("4 thread -1", kernel, () -> kernel.fetchAdd(-1, 0, 1));
-        check.noPlace("4 thread 8", kernel, () -> kernel.fetchAdd(8, 0, 1));
-        check.noPlace("4 address -1", kernel, () -> kernel.fetchAdd(0, -1, 1));
-        check.noPlace("4 address 16", kernel, () -> kernel.fetchAdd(0, 16, 1));
-        notRunning(kernel);
+    }
+
+    private static void promise4Refusals() {
+        check.noPlace("4 thread -1", Kernels::oneOfEach, kernel -> kernel.fetchAdd(-1, 0, 1));
+        check.noPlace("4 thread 8", Kernels::oneOfEach, kernel -> kernel.fetchAdd(8, 0, 1));
+        check.noPlace("4 address -1", Kernels::oneOfEach, kernel -> kernel.fetchAdd(0, -1, 1));
+        check.noPlace("4 address 16", Kernels::oneOfEach, kernel -> kernel.fetchAdd(0, 16, 1));
         for (int thread = 1; thread <= 3; thread++) {
             int caller = thread;
-            check.noState("4 not RUNNING " + thread, kernel, () -> kernel.fetchAdd(caller, 2, 1));
-            check.noPlace("4 place before state " + thread, kernel, () -> kernel.fetchAdd(caller, 16, 1));
+            check.noState("4 not RUNNING " + thread, Kernels::oneOfEach, kernel -> kernel.fetchAdd(caller, 2, 1));
+            check.noPlace("4 place before state " + thread, Kernels::oneOfEach,
+                    kernel -> kernel.fetchAdd(caller, 16, 1));
         }
     }
 
@@ -111,9 +124,9 @@ public final class WordsTest {
         for (int address = 0; address < 16; address++) {
             check.due("5 word " + address, kernel.word(address), address * 1000 + 1);
         }
-        check.noPlace("5 address -1", kernel, () -> kernel.word(-1));
-        check.noPlace("5 address 16", kernel, () -> kernel.word(16));
-        check.noPlace("5 least", kernel, () -> kernel.word(Integer.MIN_VALUE));
+        check.noPlace("5 address -1", FutexKernel::new, other -> other.word(-1));
+        check.noPlace("5 address 16", FutexKernel::new, other -> other.word(16));
+        check.noPlace("5 least", FutexKernel::new, other -> other.word(Integer.MIN_VALUE));
     }
 
     /** "A word can be overwritten at any time, lock or not; the lists do not change by that." */
@@ -131,12 +144,8 @@ public final class WordsTest {
         check.due("the waiter stays still", kernel.waiterAt(5, 0), 1);
     }
 
-    /** Makes 1 WAITING, 2 LOCKING and 3 DEAD. */
-    private static void notRunning(FutexKernel kernel) {
-        kernel.await(1, 10, kernel.word(10), 1, 0);
-        kernel.lock(0, 11, 0);
-        kernel.lock(2, 11, 0);
-        kernel.exit(3);
+    private static void oneOfEachState() {
+        FutexKernel kernel = Kernels.oneOfEach();
         check.due("set-up: 1", kernel.stateOf(1), FutexKernel.WAITING);
         check.due("set-up: 2", kernel.stateOf(2), FutexKernel.LOCKING);
         check.due("set-up: 3", kernel.stateOf(3), FutexKernel.DEAD);
