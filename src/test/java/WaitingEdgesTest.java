@@ -202,13 +202,16 @@ public final class WaitingEdgesTest {
     private static void promise8WhateverTheirMasks() {
         check.sentence("8", "Wakes threads that are WAITING at an address, whatever their masks,"
                 + " and moves further ones to another address");
-        FutexKernel kernel = new FutexKernel();
-        for (int thread = 0; thread < 7; thread++) {
-            kernel.await(thread, 0, 0, 1 << thread, 0);
+        for (int wakes = 0; wakes <= 7; wakes++) {
+            FutexKernel kernel = new FutexKernel();
+            for (int thread = 0; thread < 7; thread++) {
+                kernel.await(thread, 0, 0, 1 << 7 - thread, 0);
+            }
+            check.due("all masks", kernel.requeue(7, 0, 0, wakes, 15, 7 - wakes), 7);
+            check.due("moved", kernel.waiters(15), 7 - wakes);
+            check.due("woken", kernel.serialOf(0), wakes > 0 ? 1 : 0);
+            check.due("left", kernel.waiters(0), 0);
         }
-        check.due("all masks", kernel.requeue(7, 0, 0, 3, 15, 4), 7);
-        check.due("woken", kernel.serialOf(2), 3);
-        check.due("moved", kernel.waiters(15), 4);
     }
 
     private static void promise8IfExpected() {
