@@ -202,15 +202,13 @@ public final class WaitingEdgesTest {
     private static void promise8WhateverTheirMasks() {
         check.sentence("8", "Wakes threads that are WAITING at an address, whatever their masks,"
                 + " and moves further ones to another address");
-        for (int wakes = 0; wakes <= 7; wakes++) {
+        for (int bit = 0; bit < 8; bit++) {
             FutexKernel kernel = new FutexKernel();
-            for (int thread = 0; thread < 7; thread++) {
-                kernel.await(thread, 0, 0, 1 << 7 - thread, 0);
-            }
-            check.due("all masks", kernel.requeue(7, 0, 0, wakes, 15, 7 - wakes), 7);
-            check.due("moved", kernel.waiters(15), 7 - wakes);
-            check.due("woken", kernel.serialOf(0), wakes > 0 ? 1 : 0);
-            check.due("left", kernel.waiters(0), 0);
+            kernel.await(1, 0, 0, 1 << bit, 0);
+            kernel.await(2, 0, 0, 1 << 7 - bit, 0);
+            check.due("bit " + bit + " and another", kernel.requeue(0, 0, 0, 1, 15, 1), 2);
+            check.due("woken", kernel.resultOf(1), FutexKernel.WOKEN);
+            check.due("moved", kernel.addressOf(2), 15);
         }
     }
 
